@@ -1,4 +1,5 @@
 public final class DecimalMachine {
+    // How an instruction ended: the document's numbers of faults, and 0, which it gives to none.
     private static final int DONE = 0;
     private static final int OPERATION = 1;
     private static final int ADDRESSING = 5;
@@ -15,6 +16,77 @@ public final class DecimalMachine {
     private static final int NOT_HALTED = -1;
     private static final int MOST_STEPS = 200;
     private static final int LONGEST_PACKED = 8;
+
+    private static final int FIRST_OF_FOUR_OCTETS = 64;
+    private static final int FIRST_WITHOUT_INDEX = 128;
+    private static final int FIRST_OF_SIX_OCTETS = 192;
+    private static final int BALR = 5;
+    private static final int BCTR = 6;
+    private static final int BCR = 7;
+    private static final int SVC = 10;
+    private static final int LPR = 16;
+    private static final int LNR = 17;
+    private static final int LTR = 18;
+    private static final int LCR = 19;
+    private static final int NR = 20;
+    private static final int CLR = 21;
+    private static final int OR = 22;
+    private static final int XR = 23;
+    private static final int LR = 24;
+    private static final int CR = 25;
+    private static final int AR = 26;
+    private static final int SR = 27;
+    private static final int MR = 28;
+    private static final int DR = 29;
+    private static final int ALR = 30;
+    private static final int SLR = 31;
+    private static final int STH = 64;
+    private static final int LA = 65;
+    private static final int STC = 66;
+    private static final int IC = 67;
+    private static final int BAL = 69;
+    private static final int BCT = 70;
+    private static final int BC = 71;
+    private static final int LH = 72;
+    private static final int CH = 73;
+    private static final int AH = 74;
+    private static final int SH = 75;
+    private static final int MH = 76;
+    private static final int CVD = 78;
+    private static final int CVB = 79;
+    private static final int ST = 80;
+    private static final int N = 84;
+    private static final int SL = 95;
+    private static final int BXH = 134;
+    private static final int BXLE = 135;
+    private static final int SRL = 136;
+    private static final int SLL = 137;
+    private static final int SRA = 138;
+    private static final int SLA = 139;
+    private static final int STM = 144;
+    private static final int TM = 145;
+    private static final int MVI = 146;
+    private static final int NI = 148;
+    private static final int CLI = 149;
+    private static final int OI = 150;
+    private static final int XI = 151;
+    private static final int LM = 152;
+    private static final int MVN = 209;
+    private static final int MVC = 210;
+    private static final int MVZ = 211;
+    private static final int NC = 212;
+    private static final int CLC = 213;
+    private static final int OC = 214;
+    private static final int XC = 215;
+    private static final int TR = 220;
+    private static final int PACK = 242;
+    private static final int UNPK = 243;
+    private static final int ZAP = 248;
+    private static final int CP = 249;
+    private static final int AP = 250;
+    private static final int SP = 251;
+    private static final int MP = 252;
+    private static final int DP = 253;
 
     private final State state;
     private final Processor processor;
@@ -309,7 +381,7 @@ public final class DecimalMachine {
                 return ADDRESSING;
             }
             code = state.memory.get(at);
-            int length = code < 64 ? 2 : code < 192 ? 4 : 6;
+            int length = code < FIRST_OF_FOUR_OCTETS ? 2 : code < FIRST_OF_SIX_OCTETS ? 4 : 6;
             if (!state.memory.holds(at, length)) {
                 return ADDRESSING;
             }
@@ -325,9 +397,9 @@ public final class DecimalMachine {
 
         /** An instruction with one address has it as both, so that either name serves. */
         private void findAddresses(State state, int at) {
-            int index = code < 128 && r2 != 0 ? state.value(r2) : 0;
+            int index = code < FIRST_WITHOUT_INDEX && r2 != 0 ? state.value(r2) : 0;
             a1 = place(state, at + 2) + index & ADDRESSES;
-            a2 = code < 192 ? a1 : place(state, at + 4) & ADDRESSES;
+            a2 = code < FIRST_OF_SIX_OCTETS ? a1 : place(state, at + 4) & ADDRESSES;
         }
 
         private static int place(State state, int at) {
@@ -370,7 +442,7 @@ public final class DecimalMachine {
                 return fault;
             }
             int v = state.memory.half(x.a2);
-            if (x.code == 76) {
+            if (x.code == MH) {
                 state.put(x.r1, state.value(x.r1) * v);
                 return DONE;
             }
@@ -381,11 +453,11 @@ public final class DecimalMachine {
             int by = x.a2 & 63;
             int v = state.value(x.r1);
             switch (x.code) {
-                case 136:
+                case SRL:
                     return load(x.r1, (int) ((v & UNSIGNED) >>> by));
-                case 137:
+                case SLL:
                     return load(x.r1, (int) ((v & UNSIGNED) << by));
-                case 138:
+                case SRA:
                     return putSigned(x.r1, (long) v >> by);
                 default:
                     return shiftLeftBelowSign(x.r1, by);
@@ -393,44 +465,44 @@ public final class DecimalMachine {
         }
 
         private static boolean lacksPair(int operation, int r) {
-            return (operation == 28 || operation == 29) && (r & 1) != 0;
+            return (operation == MR || operation == DR) && (r & 1) != 0;
         }
 
         /** Operations bear the codes of RR; those of words and halves are brought to them. */
         private int apply(int operation, int r, int v) {
             int u = state.value(r);
             switch (operation) {
-                case 16:
+                case LPR:
                     return putSigned(r, Math.abs((long) v));
-                case 17:
+                case LNR:
                     return putSigned(r, -Math.abs((long) v));
-                case 18:
+                case LTR:
                     return putSigned(r, v);
-                case 19:
+                case LCR:
                     return putSigned(r, -(long) v);
-                case 20:
+                case NR:
                     return putBits(r, u & v);
-                case 21:
+                case CLR:
                     return compare(u & UNSIGNED, v & UNSIGNED);
-                case 22:
+                case OR:
                     return putBits(r, u | v);
-                case 23:
+                case XR:
                     return putBits(r, u ^ v);
-                case 24:
+                case LR:
                     return load(r, v);
-                case 25:
+                case CR:
                     return compare(u, v);
-                case 26:
+                case AR:
                     return putSigned(r, (long) u + v);
-                case 27:
+                case SR:
                     return putSigned(r, (long) u - v);
-                case 28:
+                case MR:
                     return multiply(r, v);
-                case 29:
+                case DR:
                     return divide(r, v);
-                case 30:
+                case ALR:
                     return putUnsigned(r, (u & UNSIGNED) + (v & UNSIGNED));
-                case 31:
+                case SLR:
                     return putUnsigned(r, (u & UNSIGNED) + (~v & UNSIGNED) + 1);
                 default:
                     return OPERATION;
@@ -514,16 +586,16 @@ public final class DecimalMachine {
 
         int perform(Instruction x) {
             switch (x.code) {
-                case 64:
+                case STH:
                     return store(x, 2);
-                case 65:
+                case LA:
                     state.put(x.r1, x.a2);
                     return DONE;
-                case 66:
+                case STC:
                     return store(x, 1);
-                case 67:
+                case IC:
                     return insert(x);
-                case 80:
+                case ST:
                     return store(x, 4);
                 default:
                     return several(x);
@@ -556,7 +628,7 @@ public final class DecimalMachine {
             }
             for (int i = 0; i < registers; i++) {
                 int r = x.r1 + i & 15;
-                if (x.code == 144) {
+                if (x.code == STM) {
                     state.memory.store(x.a2 + 4 * i, 4, state.value(r));
                 } else {
                     state.put(r, state.memory.word(x.a2 + 4 * i));
@@ -575,7 +647,7 @@ public final class DecimalMachine {
         }
 
         int perform(Instruction x) {
-            boolean isByRegister = x.code < 64;
+            boolean isByRegister = x.code < FIRST_OF_FOUR_OCTETS;
             // Taken before the registers change: R1 may be the one that tells where to go.
             int target = isByRegister ? state.value(x.r2) & ADDRESSES : x.a2;
             boolean goes = decide(x);
@@ -587,19 +659,19 @@ public final class DecimalMachine {
 
         private boolean decide(Instruction x) {
             switch (x.code) {
-                case 5:
-                case 69:
+                case BALR:
+                case BAL:
                     state.put(x.r1, x.behind);
                     return true;
-                case 6:
-                case 70:
+                case BCTR:
+                case BCT:
                     state.put(x.r1, state.value(x.r1) - 1);
                     return state.value(x.r1) != 0;
-                case 7:
-                case 71:
+                case BCR:
+                case BC:
                     return (x.r1 & 8 >> state.condition) != 0;
                 default:
-                    return isAboveAfterStep(x) == (x.code == 134);
+                    return isAboveAfterStep(x) == (x.code == BXH);
             }
         }
 
@@ -627,18 +699,18 @@ public final class DecimalMachine {
             }
             int octet = memory.get(x.a1);
             switch (x.code) {
-                case 145:
+                case TM:
                     testBits(octet, x.second);
                     return DONE;
-                case 146:
+                case MVI:
                     memory.put(x.a1, x.second);
                     return DONE;
-                case 148:
+                case NI:
                     return putBits(x.a1, octet & x.second);
-                case 149:
+                case CLI:
                     state.conditionBySign(octet - x.second);
                     return DONE;
-                case 150:
+                case OI:
                     return putBits(x.a1, octet | x.second);
                 default:
                     return putBits(x.a1, octet ^ x.second);
@@ -650,13 +722,13 @@ public final class DecimalMachine {
             if (!memory.holds(x.a1, n)) {
                 return ADDRESSING;
             }
-            if (x.code == 220) {
+            if (x.code == TR) {
                 return translate(x, n);
             }
             if (!memory.holds(x.a2, n)) {
                 return ADDRESSING;
             }
-            return x.code == 213 ? compare(x, n) : rewrite(x, n);
+            return x.code == CLC ? compare(x, n) : rewrite(x, n);
         }
 
         private void testBits(int octet, int tested) {
@@ -687,7 +759,7 @@ public final class DecimalMachine {
                 memory.put(x.a1 + i, octet);
                 all = all | octet;
             }
-            if (x.code >= 212) {
+            if (x.code >= NC) {
                 state.conditionByBits(all);
             }
             return DONE;
@@ -695,15 +767,15 @@ public final class DecimalMachine {
 
         private static int join(int code, int old, int other) {
             switch (code) {
-                case 209:
+                case MVN:
                     return old & 0xF0 | other & 0x0F;
-                case 211:
+                case MVZ:
                     return old & 0x0F | other & 0xF0;
-                case 212:
+                case NC:
                     return old & other;
-                case 214:
+                case OC:
                     return old | other;
-                case 215:
+                case XC:
                     return old ^ other;
                 default:
                     return other;
@@ -745,7 +817,7 @@ public final class DecimalMachine {
             if (fault != DONE) {
                 return fault;
             }
-            if (x.code == 78) {
+            if (x.code == CVD) {
                 long v = state.value(x.r1);
                 memory.putDecimal(x.a2, 8, Math.abs(v), v < 0);
                 return DONE;
@@ -776,7 +848,7 @@ public final class DecimalMachine {
             }
             int last = sourceOctet(n2 - 1);
             memory.put(x.a1 + n1 - 1, (last & 15) << 4 | last >> 4);
-            if (x.code == 242) {
+            if (x.code == PACK) {
                 packRest(x.a1, n1, n2);
             } else {
                 unpackRest(x.a1, n1, n2);
@@ -816,16 +888,16 @@ public final class DecimalMachine {
             long u = memory.decimal(x.a1, n1);
             long v = memory.decimal(x.a2, n2);
             switch (x.code) {
-                case 248:
+                case ZAP:
                     return putSum(x.a1, n1, v);
-                case 249:
+                case CP:
                     state.conditionBySign(u - v);
                     return DONE;
-                case 250:
+                case AP:
                     return putSum(x.a1, n1, u + v);
-                case 251:
+                case SP:
                     return putSum(x.a1, n1, u - v);
-                case 252:
+                case MP:
                     return multiply(x, n1, n2);
                 default:
                     return divide(x, n1, n2);
@@ -834,17 +906,17 @@ public final class DecimalMachine {
 
         private int faultOfFields(Instruction x, int n1, int n2) {
             boolean isTooLong = n1 > LONGEST_PACKED || n2 > LONGEST_PACKED;
-            if (isTooLong || x.code >= 252 && n2 >= n1) {
+            if (isTooLong || (x.code >= MP && n2 >= n1)) {
                 return SPECIFICATION;
             }
             if (!memory.holds(x.a1, n1) || !memory.holds(x.a2, n2)) {
                 return ADDRESSING;
             }
-            boolean isFirstRight = x.code == 248 || memory.isPacked(x.a1, n1);
+            boolean isFirstRight = x.code == ZAP || memory.isPacked(x.a1, n1);
             if (!isFirstRight || !memory.isPacked(x.a2, n2)) {
                 return DATA;
             }
-            return x.code == 252 && !startsWithZeros(x.a1, n2) ? DATA : DONE;
+            return x.code == MP && !startsWithZeros(x.a1, n2) ? DATA : DONE;
         }
 
         private boolean startsWithZeros(int a, int n) {
@@ -937,26 +1009,26 @@ public final class DecimalMachine {
 
         private int perform(Instruction x) {
             switch (x.code) {
-                case 10:
+                case SVC:
                     state.halt = x.second;
                     return DONE;
-                case 5: case 6: case 7: case 69: case 70: case 71: case 134: case 135:
+                case BALR: case BCTR: case BCR: case BAL: case BCT: case BC: case BXH: case BXLE:
                     return branches.perform(x);
-                case 64: case 65: case 66: case 67: case 80: case 144: case 152:
+                case STH: case LA: case STC: case IC: case ST: case STM: case LM:
                     return transfers.perform(x);
-                case 72: case 73: case 74: case 75: case 76:
+                case LH: case CH: case AH: case SH: case MH:
                     return arithmetic.withHalf(x);
-                case 78: case 79:
+                case CVD: case CVB:
                     return decimals.convert(x);
-                case 136: case 137: case 138: case 139:
+                case SRL: case SLL: case SRA: case SLA:
                     return arithmetic.shift(x);
-                case 145: case 146: case 148: case 149: case 150: case 151:
+                case TM: case MVI: case NI: case CLI: case OI: case XI:
                     return octets.withImmediate(x);
-                case 209: case 210: case 211: case 212: case 213: case 214: case 215: case 220:
+                case MVN: case MVC: case MVZ: case NC: case CLC: case OC: case XC: case TR:
                     return octets.withField(x);
-                case 242: case 243:
+                case PACK: case UNPK:
                     return decimals.changeForm(x);
-                case 248: case 249: case 250: case 251: case 252: case 253:
+                case ZAP: case CP: case AP: case SP: case MP: case DP:
                     return decimals.calculate(x);
                 default:
                     return performRegular(x);
@@ -965,10 +1037,10 @@ public final class DecimalMachine {
 
         /** The codes of these have no gaps. */
         private int performRegular(Instruction x) {
-            if (x.code >= 16 && x.code <= 31) {
+            if (x.code >= LPR && x.code <= SLR) {
                 return arithmetic.withRegister(x);
             }
-            return x.code >= 84 && x.code <= 95 ? arithmetic.withWord(x) : OPERATION;
+            return x.code >= N && x.code <= SL ? arithmetic.withWord(x) : OPERATION;
         }
     }
 }

@@ -58,6 +58,8 @@ public final class DecimalTest {
             DecimalMachine at = Check.ready(0, 1);
             at.rx(AT, code, 2, 0, 0, FIELD + 4);
             Check.stopped("no double's place", at, 6);
+            at.rx(AT, code, 2, 0, 0, FIELD + 1);
+            Check.stopped("no double's place, odd", at, 6);
             DecimalMachine out = Check.ready(0, 1);
             out.rx(AT, code, 2, 0, 0, 1024);
             Check.stopped("a double outside", out, 5);
@@ -65,8 +67,8 @@ public final class DecimalTest {
     }
 
     private static void toDecimal() {
-        int[] values = {0, 7, -7, 1234567890, Integer.MAX_VALUE, Integer.MIN_VALUE};
-        String[] due = {"000000000000000c", "000000000000007c", "000000000000007d", "000001234567890c",
+        int[] values = {0, 7, -1, 1234567890, Integer.MAX_VALUE, Integer.MIN_VALUE};
+        String[] due = {"000000000000000c", "000000000000007c", "000000000000001d", "000001234567890c",
             "000002147483647c", "000002147483648d"};
         for (int i = 0; i < values.length; i++) {
             DecimalMachine m = doubleword(78, "ffffffffffffffffee");
@@ -143,6 +145,7 @@ public final class DecimalTest {
         sum("AP", AP, "01234c", "125d", "01109c", 2);
         sum("AP to zero", AP, "125d", "125c", "000c", 0);
         sum("AP of minus zeros", AP, "000d", "0d", "000c", 0);
+        sum("AP to minus 1", AP, "001c", "002d", "001d", 1);
         sum("AP minus", AP, "001b", "125d", "126d", 1);
         sum("AP to all nines", AP, "998c", "1c", "999c", 2);
         sum("AP, field 2 longer", AP, "9d", "001c", "8d", 1);
@@ -183,7 +186,9 @@ public final class DecimalTest {
 
     private static void product(String what, int code, String first, String second, String result) {
         DecimalMachine m = two(code, first, second, 3, 1);
+        m.poke(FIELD - 1, 1, 0x99);
         Check.goes(what, m, 1, AT + 6);
+        Check.same(what + " leaves what is before", m.octet(FIELD - 1), 0x99);
         Check.same(what, Check.octets(m, FIELD, first.length() / 2), result);
     }
 
@@ -269,6 +274,13 @@ public final class DecimalTest {
             Check.stopped("field 2 outside, " + code, sized(code, 3, 2, SECOND, 1025), 5);
             Check.stopped("field 2 far outside, " + code, sized(code, 3, 2, SECOND, 4095), 5);
             Check.stopped("outside before data, " + code, sized(code, 3, 2, SECOND - 1, 1025), 5);
+        }
+        for (int code : new int[] {242, 243, ZAP}) {
+            DecimalMachine longer = sized(code, 3, 2, SECOND, 1024);
+            Check.put(longer, 1022, "001c");
+            Check.same("the shorter field 2 at the end, " + code, longer.run(1), 1);
+            DecimalMachine shorter = sized(code, 2, 3, 1024, SECOND + 16);
+            Check.same("the shorter field 1 at the end, " + code, shorter.run(1), 1);
         }
         DecimalMachine end = sized(ZAP, 3, 2, 1024, SECOND + 16);
         Check.done("ZAP to the end", end, 2);

@@ -311,6 +311,8 @@ public final class FixedPointTest {
             DecimalMachine at = Check.ready(0, 1);
             at.rx(AT, code, 2, 0, 0, 4094);
             Check.stopped("word at half a place, outside", at, 6);
+            at.rx(AT, code, 2, 0, 0, FIELD + 1);
+            Check.stopped("word at an odd place", at, 6);
             DecimalMachine out = Check.ready(0, 1);
             out.rx(AT, code, 2, 0, 0, 1024);
             Check.stopped("word outside", out, 5);
@@ -381,7 +383,7 @@ public final class FixedPointTest {
 
     private static DecimalMachine transfer(int code, int v, int d) {
         DecimalMachine m = Check.ready(3, 2);
-        m.poke(FIELD, 8, 0x1111111111111111L);
+        m.poke(FIELD, 8, 0x1111111011111111L);
         m.set(2, v);
         m.rx(AT, code, 2, 0, 0, d);
         return m;
@@ -390,16 +392,16 @@ public final class FixedPointTest {
     private static void stores() {
         DecimalMachine st = transfer(80, 0x89ABCDEF, FIELD + 4);
         Check.goes("ST", st, 2, AT + 4);
-        Check.same("ST", Check.octets(st, FIELD, 9), "1111111189abcdef00");
+        Check.same("ST", Check.octets(st, FIELD, 9), "1111111089abcdef00");
         DecimalMachine sth = transfer(64, 0x89ABCDEF, FIELD + 2);
         Check.goes("STH", sth, 2, AT + 4);
         Check.same("STH", Check.octets(sth, FIELD, 8), "1111cdef11111111");
         DecimalMachine stc = transfer(66, 0x89ABCDEF, FIELD + 1);
         Check.goes("STC", stc, 2, AT + 4);
-        Check.same("STC", Check.octets(stc, FIELD, 8), "11ef111111111111");
+        Check.same("STC", Check.octets(stc, FIELD, 8), "11ef111011111111");
         DecimalMachine ic = transfer(67, 0x89ABCDEF, FIELD + 3);
         Check.goes("IC", ic, 2, AT + 4);
-        Check.same("IC", ic.register(2), 0x89ABCD11);
+        Check.same("IC", ic.register(2), 0x89ABCD10);
         Check.stopped("ST at half a word", transfer(80, -1, FIELD + 2), 6);
         Check.stopped("STH at an odd place", transfer(64, -1, FIELD + 1), 6);
         int[][] outside = {{80, 1024}, {64, 1024}, {66, 1024}, {67, 1024}, {66, 4095}, {80, 4092}};

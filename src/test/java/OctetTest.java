@@ -123,12 +123,12 @@ public final class OctetTest {
 
     private static void translations() {
         DecimalMachine m = Check.ready(3, 2);
-        Check.put(m, FIELD, "0003ff0102");
+        Check.put(m, FIELD - 1, "010003ff0102");
         Check.put(m, 700, "a0a1a2a3");
         m.poke(955, 1, 0xFE);
         m.ss(AT, 220, 3, 0, FIELD, 0, 700);
         Check.goes("TR", m, 2, AT + 6);
-        Check.same("TR", Check.octets(m, FIELD, 5), "a0a3fea102");
+        Check.same("TR", Check.octets(m, FIELD - 1, 6), "01a0a3fea102");
         DecimalMachine self = Check.ready(0, 0);
         Check.put(self, FIELD, "03000109");
         self.ss(AT, 220, 2, 0, FIELD, 0, FIELD);
@@ -149,6 +149,8 @@ public final class OctetTest {
         Check.put(out, FIELD, "0008");
         out.ss(AT, 220, 1, 0, FIELD, 0, 1016);
         Check.stopped("TR, an entry outside", out, 5);
+        Check.put(out, FIELD, "0800");
+        Check.stopped("TR, the first entry outside", out, 5);
         DecimalMachine field = Check.ready(0, 1);
         field.ss(AT, 220, 1, 0, 1023, 0, FIELD);
         Check.stopped("TR, field 1 outside", field, 5);

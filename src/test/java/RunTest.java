@@ -68,6 +68,8 @@ public final class RunTest {
                 Check.same("code " + code + " is known", m.count(6) == 1 ? 1 : 0, 0);
             } else {
                 Check.stopped("code " + code, m, 1);
+                m.poke(AT + 1, 5, -1);
+                Check.stopped("code " + code + " with wrong addresses", m, 1);
             }
         }
     }
@@ -94,6 +96,10 @@ public final class RunTest {
         at("half outside and unknown", 1022, "4400", 5);
         at("a third outside and unknown", 1020, "ff000000", 5);
         at("at the end and unknown", 1022, "0000", 1);
+        at("the last code of two", 1022, "3f00", 1);
+        at("the first code of four", 1022, "4000", 5);
+        at("the last code of four", 1020, "bf000000", 1);
+        at("the first code of six", 1020, "c0000000", 5);
         DecimalMachine two = new DecimalMachine();
         two.rr(1022, 24, 0, 0);
         two.start(1022, 0);
