@@ -6,6 +6,8 @@ final class Check {
     static final int FIELD = 512;
     private static final int FIELD_END = FIELD + 40;
 
+    private static final int PRINTED = 200;
+
     private static int wrong = 0;
     private static int checked = 0;
 
@@ -15,16 +17,22 @@ final class Check {
     static void same(String what, long got, long due) {
         checked++;
         if (got != due) {
-            wrong++;
-            System.out.println(what + " answered " + got + ", due is " + due);
+            tell(what + " answered " + got + ", due is " + due);
         }
     }
 
     static void same(String what, String got, String due) {
         checked++;
         if (!got.equals(due)) {
-            wrong++;
-            System.out.println(what + " answered " + got + ", due is " + due);
+            tell(what + " answered " + got + ", due is " + due);
+        }
+    }
+
+    /** Only the first ones are printed: one slip can spoil millions of checks. */
+    private static void tell(String answer) {
+        wrong++;
+        if (wrong <= PRINTED) {
+            System.out.println(answer);
         }
     }
 
