@@ -103,8 +103,9 @@ public final class FieldEdgesTest {
 
     /** "A field has so many OCTETS and one more": L of 0 is one octet, L of 255 is 256. */
     private static void oneOctetAndAll() {
-        new Step("L 0", 0, 2).given(FIELD, "112233445566").ss(MVC, 0, 0, FIELD, 0, FIELD + 3).leaves(FIELD, "44").done();
-        new Step("L 1", 0, 2).given(FIELD, "112233445566").ss(MVC, 1, 0, FIELD, 0, FIELD + 3).leaves(FIELD, "4455").done();
+        String some = "112233445566";
+        new Step("L 0", 0, 2).given(FIELD, some).ss(MVC, 0, 0, FIELD, 0, FIELD + 3).leaves(FIELD, "44").done();
+        new Step("L 1", 0, 2).given(FIELD, some).ss(MVC, 1, 0, FIELD, 0, FIELD + 3).leaves(FIELD, "4455").done();
         char[] sevens = new char[512];
         Arrays.fill(sevens, '7');
         new Step("L 255", 0, 2).given(600, "77").ss(MVC, 255, 0, 601, 0, 600).leaves(601, new String(sevens))
@@ -113,7 +114,8 @@ public final class FieldEdgesTest {
             .condition(0).done();
         new Step("L 255 of CLC", 0, 3).given(855, "01").ss(CLC, 255, 0, 600, 0, 300).condition(2).done();
         new Step("L 254 of CLC", 0, 3).given(855, "01").ss(CLC, 254, 0, 600, 0, 300).condition(0).done();
-        new Step("L 255 of OC", 0, 3).given(855, "01").ss(OC, 255, 0, 300, 0, 600).leaves(555, "01").condition(1).done();
+        new Step("L 255 of OC", 0, 3).given(855, "01").ss(OC, 255, 0, 300, 0, 600).leaves(555, "01")
+            .condition(1).done();
         new Step("L 255 of TR", 0, 3).given(100, "0009").given(555, "0101").ss(TR, 255, 0, 300, 0, 100)
             .leaves(300, "00").leaves(555, "0901").done();
     }
@@ -144,7 +146,8 @@ public final class FieldEdgesTest {
                 for (int other : SOME) {
                     int due = joined(code, old, other);
                     Step step = new Step("code " + code + " " + old + " " + other, 3, 3)
-                        .given(FIELD, hex(old)).given(FIELD + 8, hex(other)).ss(code, 0, 0, FIELD, 0, FIELD + 8)
+                        .given(FIELD - 1, "3c" + hex(old) + "c3").given(FIELD + 7, "96" + hex(other) + "69")
+                        .ss(code, 0, 0, FIELD, 0, FIELD + 8)
                         .leaves(FIELD, hex(due));
                     if (code == CLC) {
                         step.condition(old == other ? 0 : old < other ? 1 : 2);
@@ -206,6 +209,8 @@ public final class FieldEdgesTest {
         }
         new Step("CLC, unlike behind the field", 3, 3).given(FIELD, "0102").given(FIELD + 8, "0103")
             .ss(CLC, 0, 0, FIELD, 0, FIELD + 8).condition(0).done();
+        new Step("CLC, unlike before the field", 3, 3).given(FIELD, "0502").given(FIELD + 8, "0602")
+            .ss(CLC, 0, 0, FIELD + 1, 0, FIELD + 9).condition(0).done();
         new Step("CLC with itself", 3, 3).given(FIELD, "0102").ss(CLC, 1, 0, FIELD, 0, FIELD).condition(0).done();
     }
 
@@ -274,6 +279,7 @@ public final class FieldEdgesTest {
                 new Step(what + ": field 2 before 0", 0, 2).given(1, -1).ss(code, n - 1, 0, 300, 1, 0).stops(5);
             }
         }
-        new Step("CLC, unlike at once", 0, 2).given(FIELD, "01").given(1023, "02").ss(CLC, 1, 0, FIELD, 0, 1023).stops(5);
+        new Step("CLC, unlike at once", 0, 2).given(FIELD, "01").given(1023, "02").ss(CLC, 1, 0, FIELD, 0, 1023)
+            .stops(5);
     }
 }

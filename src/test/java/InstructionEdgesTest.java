@@ -27,6 +27,7 @@ public final class InstructionEdgesTest {
         whatWasDoneBeforeStays();
         overflowEndsTheRun();
         countedInstructionsAndFaults();
+        fiveHundredTwelveCalls();
         Check.end();
     }
 
@@ -289,7 +290,7 @@ public final class InstructionEdgesTest {
         Check.same("FAULT " + fault, m.count(6), fault);
     }
 
-    /** "IllegalArgumentException: ... FAULT 1, 6, 7. IndexOutOfBoundsException: FAULT 5. ArithmeticException: 8 to 11." */
+    /** "IllegalArgumentException: ... 1, 6, 7. IndexOutOfBoundsException: FAULT 5. ArithmeticException: 8 to 11." */
     private static void exceptionsOfFaults() {
         fault(1, "IllegalArgumentException", 0, "0000");
         fault(5, "IndexOutOfBoundsException", 0, "58100400");
@@ -425,5 +426,22 @@ public final class InstructionEdgesTest {
         Check.same("start leaves what was done", m.count(4), 4);
         Check.same("start leaves faults", m.count(5), 5);
         Check.same("start leaves the latest", m.count(6), 9);
+    }
+
+    /** "An object is used for at most 512 calls": up to the last of them all is counted. */
+    private static void fiveHundredTwelveCalls() {
+        DecimalMachine busy = new DecimalMachine();
+        busy.rx(0, 70, 1, 0, 0, 0);
+        for (int i = 0; i < 509; i++) {
+            busy.run(200);
+        }
+        Check.same("done in 509 runs", busy.count(4), 101800);
+        Check.same("the last call", busy.register(1), -101800);
+        DecimalMachine wrong = new DecimalMachine();
+        for (int i = 0; i < 510; i++) {
+            Check.thrown(() -> wrong.run(200));
+        }
+        Check.same("faults of 510 runs", wrong.count(5), 510);
+        Check.same("nothing was done", wrong.count(4), 0);
     }
 }

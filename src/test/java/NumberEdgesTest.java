@@ -9,6 +9,10 @@ public final class NumberEdgesTest {
     private static final BigInteger WORDS = BigInteger.ONE.shiftLeft(32);
     private static final int[] EDGES = {LEAST, LEAST + 1, 0xAAAAAAAA, -65536, -32769, -32768, -2, -1, 0, 1, 2, 255, 256,
         32767, 32768, 65536, 0x40000000, 0x55555555, MOST - 1, MOST};
+    /** The codes with an operand in MEMORY, and how many octets it has. */
+    private static final int[][] SIZES = {{64, 2}, {66, 1}, {67, 1}, {72, 2}, {73, 2}, {74, 2}, {75, 2}, {76, 2},
+        {78, 8}, {79, 8}, {80, 4}, {84, 4}, {85, 4}, {86, 4}, {87, 4}, {88, 4}, {89, 4}, {90, 4}, {91, 4}, {92, 4}, {93, 4},
+        {94, 4}, {95, 4}};
     private static final int[] HALVES = {-32768, -32767, -256, -1, 0, 1, 255, 256, 32766, 32767};
 
     public static void main(String[] args) {
@@ -58,7 +62,7 @@ public final class NumberEdgesTest {
             return step.given(3, v).rr(code, 2, 3);
         }
         boolean isHalf = code >= 72 && code <= 76;
-        return step.given(FIELD, isHalf ? halfHex(v) : hex(v)).rx(code, 2, 0, 0, FIELD);
+        return step.given(FIELD - 2, "a55a" + (isHalf ? halfHex(v) : hex(v)) + "5aa5").rx(code, 2, 0, 0, FIELD);
     }
 
     private static int conditionOf(BigInteger exact) {
@@ -184,7 +188,7 @@ public final class NumberEdgesTest {
         }
     }
 
-    /** "LTR: ... CC by its sign", "LCR: -V ... (3 for the least int)", "LPR ... (beyond: CC 3, as A)", "LNR (CC 0, 1)" */
+    /** "LTR: ... CC by its sign", "LCR: ... (3 for the least int)", "LPR ... (beyond: CC 3, as A)", "LNR (CC 0, 1)" */
     private static void signs() {
         for (int v : EDGES) {
             BigInteger exact = BigInteger.valueOf(v);
@@ -351,7 +355,8 @@ public final class NumberEdgesTest {
 
     /** "goes to A2, V if bit 8, 4, 2, 1 of R1 for CC 0, 1, 2, 3 is 1" */
     private static void conditions() {
-        String[] going = {"", "3", "2", "23", "1", "13", "12", "123", "0", "03", "02", "023", "01", "013", "012", "0123"};
+        String[] going = {"", "3", "2", "23", "1", "13", "12", "123", "0", "03", "02", "023", "01", "013", "012",
+            "0123"};
         for (int mask = 0; mask < 16; mask++) {
             for (int condition = 0; condition <= 3; condition++) {
                 boolean goes = going[mask].indexOf('0' + condition) >= 0;
@@ -419,7 +424,7 @@ public final class NumberEdgesTest {
         }
     }
 
-    /** "compared with the odd one of R3 and the next above it: goes to A2 if it is above; not above (both taken before)" */
+    /** "the odd one of R3 and the next above it: goes to A2 if it is above; not above (both taken before)" */
     private static void indexes() {
         int[] some = {LEAST, -1, 0, 1, MOST};
         for (int first : some) {
@@ -459,7 +464,7 @@ public final class NumberEdgesTest {
         }
     }
 
-    /** "SRA: with its sign; CC as LTR. SLA: ... CC 3, FAULT 8 with MASK FIXED, if a bit that goes out is not like the sign" */
+    /** "SRA: with its sign; CC as LTR. SLA: ... CC 3, FAULT 8 ..., if a bit that goes out is not like the sign" */
     private static void shiftsWithSign() {
         for (int v : EDGES) {
             for (int by = 0; by < 64; by++) {
@@ -545,10 +550,12 @@ public final class NumberEdgesTest {
 
     /** "FAULT 6: a HALF, WORD, DOUBLE (of STM, LM, too) at no multiple of its size" */
     private static void placesOfOperands() {
-        int[][] sizes = {{64, 2}, {72, 2}, {73, 2}, {74, 2}, {75, 2}, {76, 2}, {78, 8}, {79, 8}, {80, 4}, {84, 4}, {85, 4},
-            {86, 4}, {87, 4}, {88, 4}, {89, 4}, {90, 4}, {91, 4}, {92, 4}, {93, 4}, {94, 4}, {95, 4}, {144, 4},
-            {152, 4}, {66, 1}, {67, 1}};
-        for (int[] s : sizes) {
+        for (int code : new int[] {144, 152}) {
+            for (int i = 1; i < 4; i++) {
+                new Step(code + " at 4 times n and " + i, 0, 0).rx(code, 2, 4, 0, FIELD + i).stops(6);
+            }
+        }
+        for (int[] s : SIZES) {
             for (int i = 0; i < 8; i++) {
                 String what = "code " + s[0] + " at 8 times n and " + i;
                 Step step = new Step(what, 3, 2).given(FIELD, "000000000000000c000000000000000c");
@@ -565,10 +572,8 @@ public final class NumberEdgesTest {
 
     /** "FAULT 5: an OCTET that is taken, stored or looked at is not in MEMORY" */
     private static void operandsNotInMemory() {
-        int[][] sizes = {{64, 2}, {66, 1}, {67, 1}, {72, 2}, {73, 2}, {74, 2}, {75, 2}, {76, 2}, {78, 8}, {79, 8}, {80, 4},
-            {84, 4}, {85, 4}, {86, 4}, {87, 4}, {88, 4}, {89, 4}, {90, 4}, {91, 4}, {92, 4}, {93, 4}, {94, 4}, {95, 4}};
         String last = "000000000000001c";
-        for (int[] s : sizes) {
+        for (int[] s : SIZES) {
             Step inside = new Step("code " + s[0] + " up to the end", 3, 3).given(1016, last).given(2, 0).given(3, 1);
             inside.rx(s[0], 2, 0, 0, 1024 - s[1]);
             Check.same("code " + s[0] + " up to the end", Check.thrown(() -> inside.machine.run(1)), "none");

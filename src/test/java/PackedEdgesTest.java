@@ -67,8 +67,9 @@ public final class PackedEdgesTest {
     /** The least, the greatest and some between, of each sign. */
     private static List<String> fields(int n) {
         List<String> fields = new ArrayList<>();
-        BigInteger[] numbers = {BigInteger.ZERO, BigInteger.ONE, BigInteger.TEN, tenTo(2 * n - 1).subtract(BigInteger.ONE),
-            tenTo(2 * n - 2), tenTo(n), new BigInteger("123456789012345"), BigInteger.valueOf(5)};
+        BigInteger nines = tenTo(2 * n - 1).subtract(BigInteger.ONE);
+        BigInteger[] numbers = {BigInteger.ZERO, BigInteger.ONE, BigInteger.TEN, nines, tenTo(2 * n - 2), tenTo(n),
+            new BigInteger("123456789012345"), BigInteger.valueOf(5)};
         for (BigInteger number : numbers) {
             fields.add(field(n, number, 'c'));
             fields.add(field(n, number, 'd'));
@@ -76,10 +77,12 @@ public final class PackedEdgesTest {
         return fields;
     }
 
+    /** The octets round both fields are no zeros and no digits: none of them may be looked at. */
     private static Step two(String what, int code, String first, String second, int mask, int condition) {
         int n1 = first.length() / 2;
         int n2 = second.length() / 2;
-        return new Step(what + " " + first + " " + second, mask, condition).given(FIELD, first).given(SECOND, second)
+        return new Step(what + " " + first + " " + second, mask, condition)
+            .given(FIELD - 2, "eeff" + first + "feef").given(SECOND - 2, "eeff" + second + "feef")
             .ss(code, (n1 - 1) * 16 + n2 - 1, 0, FIELD, 0, SECOND);
     }
 
@@ -88,7 +91,8 @@ public final class PackedEdgesTest {
     }
 
     private static Step toBinary(String octets, int condition) {
-        return new Step("CVB " + octets, 3, condition).given(1, 0x55555555).given(FIELD, octets).rx(79, 1, 0, 0, FIELD);
+        return new Step("CVB " + octets, 3, condition).given(1, 0x55555555).given(FIELD - 1, "ff" + octets + "ff")
+            .rx(79, 1, 0, 0, FIELD);
     }
 
     /** "CVB: the packed DOUBLE at A2 to R1 (...; FAULT 9 if it is no int)" */
@@ -208,8 +212,10 @@ public final class PackedEdgesTest {
             for (int n = 1; n <= 16; n++) {
                 int l1 = (n - 1) * 16;
                 int l2 = n - 1;
-                new Step(code + ", field 1 of " + n, 0, 1).given(FIELD, "5c").ss(code, l1, 0, 1025 - n, 0, FIELD).stops(5);
-                new Step(code + ", field 2 of " + n, 0, 1).given(FIELD, "5c").ss(code, l2, 0, FIELD, 0, 1025 - n).stops(5);
+                new Step(code + ", field 1 of " + n, 0, 1).given(FIELD, "5c").ss(code, l1, 0, 1025 - n, 0, FIELD)
+                    .stops(5);
+                new Step(code + ", field 2 of " + n, 0, 1).given(FIELD, "5c").ss(code, l2, 0, FIELD, 0, 1025 - n)
+                    .stops(5);
                 Step first = new Step(code + ", field 1 up to the end", 0, 1).ss(code, l1, 0, 1024 - n, 0, FIELD);
                 Check.same(code + ", field 1 up to the end, " + n, first.machine.run(1), 1);
                 Step second = new Step(code + ", field 2 up to the end", 0, 1).ss(code, l2, 0, FIELD, 0, 1024 - n);
@@ -396,6 +402,8 @@ public final class PackedEdgesTest {
                 }
             }
         }
+        two("MP, two octets alike", MP, "0101001c", "001d", 3, 1).stops(7);
+        two("MP, half an octet", MP, "1000001c", "1d", 3, 1).stops(7);
     }
 
     /** "FAULT 6 if field 2 has more OCTETS than field 1 less 1", "DP: FAULT 6 likewise" */
@@ -436,7 +444,7 @@ public final class PackedEdgesTest {
         step.leaves(FIELD, field(n1 - n2, due[0], sign) + field(n2, due[1], restSign)).done();
     }
 
-    /** "the quotient (its OCTETS less those of field 2; ...), then the rest (as many OCTETS as field 2, the sign of field 1)" */
+    /** "the quotient (its OCTETS less those of field 2; ...), then the rest (as many OCTETS as field 2, ...)" */
     private static void quotients() {
         for (int n2 = 1; n2 <= 7; n2++) {
             for (int n1 = n2 + 1; n1 <= 8; n1++) {
@@ -468,7 +476,8 @@ public final class PackedEdgesTest {
         }
     }
 
-    private static void overlapping(int code, String before, int a1, int n1, int a2, int n2, String after, int condition) {
+    private static void overlapping(int code, String before, int a1, int n1, int a2, int n2, String after,
+            int condition) {
         new Step("code " + code + " " + before, 0, 1).given(FIELD, before)
             .ss(code, (n1 - 1) * 16 + n2 - 1, 0, FIELD + a1, 0, FIELD + a2).leaves(FIELD, after).condition(condition)
             .done();
