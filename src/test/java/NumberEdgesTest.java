@@ -11,8 +11,8 @@ public final class NumberEdgesTest {
         32767, 32768, 65536, 0x40000000, 0x55555555, MOST - 1, MOST};
     /** The codes with an operand in MEMORY, and how many octets it has. */
     private static final int[][] SIZES = {{64, 2}, {66, 1}, {67, 1}, {72, 2}, {73, 2}, {74, 2}, {75, 2}, {76, 2},
-        {78, 8}, {79, 8}, {80, 4}, {84, 4}, {85, 4}, {86, 4}, {87, 4}, {88, 4}, {89, 4}, {90, 4}, {91, 4}, {92, 4}, {93, 4},
-        {94, 4}, {95, 4}};
+        {78, 8}, {79, 8}, {80, 4}, {84, 4}, {85, 4}, {86, 4}, {87, 4}, {88, 4}, {89, 4}, {90, 4}, {91, 4}, {92, 4},
+        {93, 4}, {94, 4}, {95, 4}};
     private static final int[] HALVES = {-32768, -32767, -256, -1, 0, 1, 255, 256, 32766, 32767};
 
     public static void main(String[] args) {
